@@ -135,7 +135,7 @@ public final class RegionRestarts {
         nodeIsThere[node] = false;
         int failing = graph.tasksOn(node);
         int mostFails = blameAll(failing, ITS_NODE_WENT);
-        if (ended || failing == 0) {
+        if (ended) {
             return 0;
         }
         moveAway(failing);

@@ -16,7 +16,9 @@ public final class FailTest {
         unsteadyThroughADirectChannel();
         seenOutlivesANewBeginning();
         seenUpToTheMarkIsSettled();
+        seenStaysWhenTakenAgain();
         takenAtTheMarkIsSettled();
+        takenAtTheMarkIsSettledWithoutRows();
         asAtTheMark();
         directRowsAsAtTheMark();
         unsteadyRowsAsAtTheMark();
@@ -240,6 +242,40 @@ public final class FailTest {
         for (int k = 0; k < 4; k++) {
             CHECK.due("the same row " + k, x.out(3, k), x.row(2, k));
         }
+    }
+
+    private static void seenStaysWhenTakenAgain() {
+        RegionRestarts x = Jobs.chain(true, 16, Jobs.SOURCE, Jobs.SINK);
+        Jobs.stepAll(x);
+        Jobs.stepAll(x);
+        x.fail(1);
+        x.tick(1);
+        x.step(1);
+        CHECK.due("taken again so far", x.channelAt(0, 5), 8);
+        CHECK.due("seen", x.channelAt(0, 8), 16);
+    }
+
+    /** At the mark the channel to the sink had no rows, but the sink had taken eight of it. */
+    private static void takenAtTheMarkIsSettledWithoutRows() {
+        RegionRestarts x = Jobs.chain(true, 20, Jobs.SOURCE, Jobs.DRAW, Jobs.ADD, Jobs.SINK);
+        Jobs.stepAll(x);
+        x.lose(2);
+        x.fail(2);
+        x.tick(1);
+        x.mark();
+        x.step(2);
+        x.step(0);
+        x.step(1);
+        x.step(2);
+        CHECK.due("none begins again", x.lose(1), 0);
+        CHECK.due("the add and the draw are unsteady, the sink stays", x.region(2), 0b0110);
+        x.step(3);
+        CHECK.due("it took more: it does not", x.region(2), 0b1110);
+        CHECK.due("three", x.fail(2), 3);
+        CHECK.due("rows", x.channelAt(2, 3), 0);
+        CHECK.due("taken", x.channelAt(2, 5), 8);
+        CHECK.due("seen", x.channelAt(2, 8), 8);
+        CHECK.due("out", x.taskAt(3, 8), 8);
     }
 
     private static void asAtTheMark() {

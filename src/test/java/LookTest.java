@@ -104,6 +104,8 @@ public final class LookTest {
         CHECK.due("row 5", x.row(0, 5), NONE);
         CHECK.due("row 64", x.row(0, 64), NONE);
         CHECK.due("far beyond", x.row(0, Integer.MAX_VALUE), NONE);
+        x.fail(0);
+        CHECK.due("it is kept, and not given again so far", x.row(0, 4), 12);
         x.lose(0);
         CHECK.due("it has those that are lost", x.row(0, 4), 12);
         x.fail(0);

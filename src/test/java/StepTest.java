@@ -16,6 +16,7 @@ public final class StepTest {
         overAgainOnlyWhenGivenAgain();
         atMost64();
         rowsNotGivenTakeNoRoom();
+        roomEndsWithinAStep();
         outAtMost200();
         throwDoesNothing();
         halvingSetsAside();
@@ -26,6 +27,7 @@ public final class StepTest {
         poisonOfEverySort();
         poisonBeyondTheStep();
         poisonBeyondTheRoom();
+        noPoisonIsNoValue();
         keptRowsAreNotDoubled();
         refused();
         CHECK.end();
@@ -292,6 +294,24 @@ public final class StepTest {
         CHECK.due("done", x.taskAt(4, 7), 1);
     }
 
+    /** Every other row is given: the last four that there is room for are among seven. */
+    private static void roomEndsWithinAStep() {
+        RegionRestarts x = new RegionRestarts();
+        x.task(0, 20, 0);
+        x.task(2, 2, 0);
+        x.task(5, 0, 0);
+        for (int c = 0; c < 7; c++) {
+            x.channel(0, 1, true);
+        }
+        x.channel(1, 2, true);
+        Jobs.stepTimes(x, 0, 3);
+        Jobs.stepTimes(x, 1, 15);
+        CHECK.due("it gave", x.channelAt(7, 4), 60);
+        CHECK.due("it takes", x.step(1), 7);
+        CHECK.due("it gave", x.channelAt(7, 4), 64);
+        CHECK.due("no more", x.step(1), 0);
+    }
+
     private static void outAtMost200() {
         RegionRestarts x = new RegionRestarts();
         x.task(0, 3, 0);
@@ -508,6 +528,21 @@ public final class StepTest {
         CHECK.due("59 so far", x.taskAt(4, 2), 59);
         CHECK.due("as many as there is room for", x.step(4), 5);
         CHECK.due("it can take no more", x.step(4), 0);
+    }
+
+    /** 1001 tells that there is no poison; a row may have that value all the same. */
+    private static void noPoisonIsNoValue() {
+        RegionRestarts x = new RegionRestarts();
+        int[] sorts = {0, 3, 3, 1, 1, 1, 1, 5};
+        int[] numbers = {20, 0, 0, 20, 20, 20, 1, 0};
+        for (int t = 0; t < sorts.length; t++) {
+            x.task(sorts[t], numbers[t], 0);
+            x.channel(t - 1, t, true);
+        }
+        Jobs.stepAll(x);
+        Jobs.stepAll(x);
+        CHECK.due("a row", x.row(6, 14), 1001);
+        CHECK.due("is taken", x.out(7, 14), 1001);
     }
 
     private static void keptRowsAreNotDoubled() {

@@ -11,6 +11,7 @@ public final class TimeAndMarkTest {
         markWithRowsStillToBeGivenAgain();
         clear();
         clearedIsNew();
+        clearedHasNoOldChannels();
         CHECK.end();
     }
 
@@ -149,5 +150,20 @@ public final class TimeAndMarkTest {
             x.fail(2);
         }
         CHECK.due("stepped", Jobs.look(cleared).equals(Jobs.look(fresh)) ? 1 : 0, 1);
+    }
+
+    /** The total took from the draw in the job before; in this one it does not, and is steady. */
+    private static void clearedHasNoOldChannels() {
+        RegionRestarts x = used();
+        x.clear();
+        x.task(0, 5, 0);
+        x.task(4, 0, 1);
+        x.task(3, 0, 1);
+        x.task(5, 0, 2);
+        x.channel(0, 1, true);
+        x.channel(0, 2, true);
+        x.channel(2, 3, true);
+        Jobs.stepAll(x);
+        CHECK.due("the draw and the total, not the sink", x.gone(1), 2);
     }
 }
