@@ -246,14 +246,17 @@ public final class RegionRestarts {
     }
 
     public int cause(int k, int what) {
+        // OUTSIDE stands among the answers of which the first that fits is given; NONE does not.
+        if (what < 0 || what > 2) {
+            return OUTSIDE;
+        }
         if (k < 0 || k >= causes.count) {
             return NONE;
         }
         switch (what) {
             case 0: return causes.tasks[k];
             case 1: return causes.times[k];
-            case 2: return causes.kinds[k];
-            default: return OUTSIDE;
+            default: return causes.kinds[k];
         }
     }
 

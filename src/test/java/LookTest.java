@@ -11,6 +11,7 @@ public final class LookTest {
         out();
         aside();
         cause();
+        causeOutsideAheadOfNone();
         causesHaveAnEnd();
         told();
         CHECK.end();
@@ -172,7 +173,21 @@ public final class LookTest {
         CHECK.due("cause 4", x.cause(4, 0), NONE);
         CHECK.due("what -1", x.cause(0, -1), OUTSIDE);
         CHECK.due("what 3", x.cause(0, 3), OUTSIDE);
-        CHECK.due("none such, whatever is asked", x.cause(4, 3), NONE);
+        CHECK.due("outside ahead of none", x.cause(4, 3), OUTSIDE);
+    }
+
+    private static void causeOutsideAheadOfNone() {
+        RegionRestarts x = new RegionRestarts();
+        int[] missing = {Integer.MIN_VALUE, -1, 0, 1, 63, 64, Integer.MAX_VALUE};
+        int[] outside = {Integer.MIN_VALUE, -2, -1, 3, 4, Integer.MAX_VALUE};
+        for (int k : missing) {
+            for (int what : outside) {
+                CHECK.due("cause(" + k + ", " + what + ")", x.cause(k, what), OUTSIDE);
+            }
+            for (int what = 0; what <= 2; what++) {
+                CHECK.due("cause(" + k + ", " + what + ")", x.cause(k, what), NONE);
+            }
+        }
     }
 
     private static void causesHaveAnEnd() {
