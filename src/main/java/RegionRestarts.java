@@ -556,6 +556,11 @@ public final class RegionRestarts {
             return isIn(done, from) && position >= given;
         }
 
+        /** A task that is done may have given fewer than are there; those beyond are not its rows. */
+        boolean offersAt(int position, int done) {
+            return position < held && !isOverAt(position, done);
+        }
+
         void takeOne() {
             taken++;
             seen = Math.max(seen, taken);
@@ -808,7 +813,7 @@ public final class RegionRestarts {
                 Channel channel = graph.channels[c];
                 if (channel.to == task) {
                     int k = channel.taken;
-                    for (; k < channel.held && takesMore(taker); k++) {
+                    for (; channel.offersAt(k, done) && takesMore(taker); k++) {
                         add(taker, c, channel.rows[k]);
                     }
                     if (!channel.isOverAt(k, done)) {

@@ -14,6 +14,10 @@ public final class StepTest {
         everyChannelHasEachRow();
         channelsByNumbers();
         overAgainOnlyWhenGivenAgain();
+        endsWhereOver();
+        beyondOverOthersFollow();
+        beyondOverNothingThrows();
+        keptRowsAheadOfTheEnd();
         atMost64();
         rowsNotGivenTakeNoRoom();
         roomEndsWithinAStep();
@@ -239,6 +243,110 @@ public final class StepTest {
         x.step(0);
         CHECK.due("it is over again", x.channelAt(0, 7), 1);
         CHECK.due("those of the next", x.step(2), 3);
+    }
+
+    /**
+     * Task 6 gave the rows 0 and 3 of task 0 to channel 4, and then set row 0 aside for a value that
+     * is drawn no more: of the two rows that channel 4 keeps it will give one again.
+     */
+    private static RegionRestarts fewerGivenAgain(boolean sinkHasMore) {
+        RegionRestarts x = new RegionRestarts();
+        int[] sorts = {0, 0, 0, 0, 4, 2, 1, 5};
+        int[] numbers = {2, 0, 0, 1, 0, 4, 0, 0};
+        for (int t = 0; t < sorts.length; t++) {
+            x.task(sorts[t], numbers[t], 0);
+        }
+        x.channel(3, 4, true);
+        x.channel(4, 5, false);
+        x.channel(5, 6, true);
+        x.channel(0, 6, true);
+        x.channel(6, 7, true);
+        if (sinkHasMore) {
+            x.channel(0, 7, true);
+        }
+        x.poison(6, 24);
+        x.rule(9, true);
+        return x;
+    }
+
+    private static void giveFewerAgain(RegionRestarts x) {
+        x.step(0);
+        x.step(3);
+        drawAgain(x, 22, 0);
+        CHECK.due("rows of the source alone", x.step(6), 2);
+        CHECK.due("the two that draw", x.fail(4), 2);
+        CHECK.due("the taker alone", x.fail(6), 1);
+        x.tick(1);
+        drawAgain(x, 24, 1);
+        for (int i = 0; i < 4; i++) {
+            CHECK.due("the drawn row is first", x.step(6), THREW);
+            x.tick(16);
+        }
+        CHECK.due("row 0 is set aside", x.aside(6, 0), 0);
+        CHECK.due("the drawn row was not taken", x.fail(4), 2);
+        x.tick(2);
+        drawAgain(x, 18, 0);
+        CHECK.due("two rows are kept", x.channelAt(4, 3), 2);
+        CHECK.due("none is given again so far", x.channelAt(4, 4), 0);
+    }
+
+    private static void drawAgain(RegionRestarts x, int value, int passes) {
+        CHECK.due("it draws", x.step(4), 1);
+        CHECK.due("drawn", x.row(1, 0), value);
+        x.step(5);
+        CHECK.due("passes", x.channelAt(2, 3), passes);
+    }
+
+    private static void endsWhereOver() {
+        RegionRestarts x = fewerGivenAgain(false);
+        giveFewerAgain(x);
+        CHECK.due("both once more, one aside", x.step(6), 2);
+        CHECK.due("it is done", x.taskAt(6, 7), 1);
+        CHECK.due("one is given again", x.channelAt(4, 4), 1);
+        CHECK.due("though two are there", x.channelAt(4, 3), 2);
+        CHECK.due("not over so far", x.channelAt(4, 7), 0);
+        CHECK.due("one is taken", x.step(7), 1);
+        CHECK.due("of that channel", x.channelAt(4, 5), 1);
+        CHECK.due("and seen", x.channelAt(4, 8), 1);
+        CHECK.due("over", x.channelAt(4, 7), 1);
+        CHECK.due("done", x.taskAt(7, 7), 1);
+        CHECK.due("nothing more", x.step(7), 0);
+        CHECK.due("rows of out", x.taskAt(7, 8), 1);
+    }
+
+    private static void beyondOverOthersFollow() {
+        RegionRestarts x = fewerGivenAgain(true);
+        giveFewerAgain(x);
+        x.step(6);
+        CHECK.due("one, and two of the next channel", x.step(7), 3);
+        CHECK.due("the kept row", x.out(7, 0), 0);
+        CHECK.due("the first of the next channel", x.out(7, 1), 0);
+        CHECK.due("the second of it", x.out(7, 2), 3);
+        CHECK.due("done", x.taskAt(7, 7), 1);
+    }
+
+    private static void beyondOverNothingThrows() {
+        RegionRestarts x = fewerGivenAgain(false);
+        x.poison(7, 3);
+        giveFewerAgain(x);
+        x.step(6);
+        CHECK.due("the poison is there", x.row(4, 1), 3);
+        CHECK.due("but is not taken", x.step(7), 1);
+        CHECK.due("nor does it throw next", x.step(7), 0);
+        CHECK.due("done", x.taskAt(7, 7), 1);
+    }
+
+    private static void keptRowsAheadOfTheEnd() {
+        RegionRestarts x = fewerGivenAgain(true);
+        giveFewerAgain(x);
+        CHECK.due("all that are kept", x.step(7), 2);
+        CHECK.due("taken", x.channelAt(4, 5), 2);
+        CHECK.due("not over: nothing is given again", x.channelAt(4, 7), 0);
+        x.step(6);
+        CHECK.due("one is given again", x.channelAt(4, 4), 1);
+        CHECK.due("over, with more taken than that", x.channelAt(4, 7), 1);
+        CHECK.due("those of the next channel", x.step(7), 2);
+        CHECK.due("done", x.taskAt(7, 7), 1);
     }
 
     private static RegionRestarts fourSourcesTo(int sort, int a) {
