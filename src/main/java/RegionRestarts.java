@@ -556,11 +556,6 @@ public final class RegionRestarts {
             return isIn(done, from) && position >= given;
         }
 
-        /** A task that is done may have given fewer than are there; those beyond are not its rows. */
-        boolean offersAt(int position, int done) {
-            return position < held && !isOverAt(position, done);
-        }
-
         void takeOne() {
             taken++;
             seen = Math.max(seen, taken);
@@ -813,8 +808,10 @@ public final class RegionRestarts {
                 Channel channel = graph.channels[c];
                 if (channel.to == task) {
                     int k = channel.taken;
-                    for (; channel.offersAt(k, done) && takesMore(taker); k++) {
+                    // A task that is done may have given fewer than are there; those beyond stay.
+                    while (k < channel.held && !channel.isOverAt(k, done) && takesMore(taker)) {
                         add(taker, c, channel.rows[k]);
+                        k++;
                     }
                     if (!channel.isOverAt(k, done)) {
                         return;

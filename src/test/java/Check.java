@@ -12,6 +12,19 @@ final class Check {
         }
     }
 
+    void yes(String about, boolean holds) {
+        due(about, holds ? 1 : 0, 1);
+    }
+
+    void same(String about, String got, String want) {
+        if (got.equals(want)) {
+            right++;
+        } else {
+            wrong++;
+            System.out.println(about + ": it is\n" + got + "\ndue is\n" + want);
+        }
+    }
+
     void end() {
         System.out.println(right + " answers right, " + wrong + " wrong");
         if (wrong != 0 || right == 0) {

@@ -29,40 +29,63 @@ final class Jobs {
         }
     }
 
+    /** What the row that is drawn as number k of a job, from 1 on, has more. */
+    static int drawn(int k) {
+        long drawn = 1;
+        for (int i = 0; i < k; i++) {
+            drawn = drawn * 16807 % 2147483647L;
+        }
+        return (int) (drawn % 10);
+    }
+
     /** All that can be asked of an object without changing it. */
     static String look(RegionRestarts x) {
         StringBuilder text = new StringBuilder("told");
         for (int what = 0; what <= 10; what++) {
             text.append(' ').append(x.told(what));
         }
-        for (int t = 0; t < x.told(0); t++) {
-            text.append("\ntask ").append(t).append(": region ").append(x.region(t)).append(" at");
-            for (int what = 0; what <= 9; what++) {
-                text.append(' ').append(x.taskAt(t, what));
-            }
-            text.append(" out");
-            for (int k = 0; k < x.taskAt(t, 8); k++) {
-                text.append(' ').append(x.out(t, k));
-            }
-            text.append(" aside");
-            for (int k = 0; k < x.taskAt(t, 9); k++) {
-                text.append(' ').append(x.aside(t, k));
-            }
+        int tasks = x.told(0);
+        for (int t = 0; t < tasks; t++) {
+            lookAtTask(x, t, text);
         }
-        for (int c = 0; c < x.told(1); c++) {
-            text.append("\nchannel ").append(c).append(":");
-            for (int what = 0; what <= 8; what++) {
-                text.append(' ').append(x.channelAt(c, what));
-            }
-            text.append(" rows");
-            for (int k = 0; k < x.channelAt(c, 3); k++) {
-                text.append(' ').append(x.row(c, k));
-            }
+        int channels = x.told(1);
+        for (int c = 0; c < channels; c++) {
+            lookAtChannel(x, c, text);
         }
-        for (int k = 0; k < x.told(5); k++) {
+        int causes = x.told(5);
+        for (int k = 0; k < causes; k++) {
             text.append("\ncause ").append(x.cause(k, 0)).append(' ').append(x.cause(k, 1));
             text.append(' ').append(x.cause(k, 2));
         }
         return text.toString();
+    }
+
+    private static void lookAtTask(RegionRestarts x, int task, StringBuilder text) {
+        text.append("\ntask ").append(task).append(": region ").append(x.region(task)).append(" at");
+        for (int what = 0; what <= 9; what++) {
+            text.append(' ').append(x.taskAt(task, what));
+        }
+        text.append(" out");
+        int rows = x.taskAt(task, 8);
+        for (int k = 0; k < rows; k++) {
+            text.append(' ').append(x.out(task, k));
+        }
+        text.append(" aside");
+        int aside = x.taskAt(task, 9);
+        for (int k = 0; k < aside; k++) {
+            text.append(' ').append(x.aside(task, k));
+        }
+    }
+
+    private static void lookAtChannel(RegionRestarts x, int channel, StringBuilder text) {
+        text.append("\nchannel ").append(channel).append(":");
+        for (int what = 0; what <= 8; what++) {
+            text.append(' ').append(x.channelAt(channel, what));
+        }
+        text.append(" rows");
+        int rows = x.channelAt(channel, 3);
+        for (int k = 0; k < rows; k++) {
+            text.append(' ').append(x.row(channel, k));
+        }
     }
 }
