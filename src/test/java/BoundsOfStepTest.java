@@ -22,6 +22,7 @@ public final class BoundsOfStepTest {
         sixtyFourWithPoison();
         outOf200();
         outOf200WithPoison();
+        asideTakesNoRoom();
         poisonAtEveryRow();
         widthIsHalved();
         widthOfOneWithAside();
@@ -360,6 +361,25 @@ public final class BoundsOfStepTest {
         RegionRestarts x = putOut199(33);
         CHECK.due("the 201st", x.step(12), 1);
         CHECK.due("it stays beyond", x.step(12), 0);
+    }
+
+    /** The row that would be the last one is set ASIDE: it is taken, and the next one too. */
+    private static void asideTakesNoRoom() {
+        lastRowAside(gave63(20), 6, 63);
+        lastRowAside(putOut199(30), 12, 199);
+    }
+
+    private static void lastRowAside(RegionRestarts x, int task, int number) {
+        x.rule(9, true);
+        x.mark();
+        for (int i = 0; i < 4; i++) {
+            CHECK.due("it throws", x.step(task), THREW);
+            x.tick(16);
+        }
+        CHECK.due("set aside", x.aside(task, 0), number);
+        CHECK.due("that, and one more", x.step(task), 2);
+        CHECK.due("place", x.taskAt(task, 2), number + 2);
+        CHECK.due("no more", x.step(task), 0);
     }
 
     /** The first and the last row of a step throw, the first one beyond it does not. */
