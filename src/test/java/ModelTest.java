@@ -1,6 +1,6 @@
 /**
  * Random jobs on the program and on the document's words made plain (Model.java): each call must be
- * answered the same by both, and all that can be asked of them must be the same after it.
+ * answered the same by both, and so must all that can be asked of them, now and then and at the end.
  */
 public final class ModelTest {
     private static final int JOBS = 800;
